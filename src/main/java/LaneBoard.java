@@ -289,9 +289,6 @@ public final class LaneBoard {
 
     /** THE CODE, with THE MEETS of its BRANCHES. */
     private static final class Code {
-        // Marks a place from which no way leads to THE END; it lies above the numbers of all places.
-        private static final long LEADS_NOWHERE = 1L << 40;
-
         int count;
         final int[] op = new int[MOST_ACTS];
         final int[] a = new int[MOST_ACTS];
@@ -370,11 +367,11 @@ public final class LaneBoard {
 
         private void mark(int place) {
             if (place < 64) low[place] |= 1L << place;
-            else high[place] |= 1L << place - 64;
+            else high[place] |= 1L << (place - 64);
         }
 
         private boolean isOn(int place, int from) {
-            return (place < 64 ? low[from] >>> place & 1 : high[from] >>> place - 64 & 1) != 0;
+            return ((place < 64 ? low[from] >>> place : high[from] >>> (place - 64)) & 1) != 0;
         }
 
         /** What is on all ways from i: itself, and what is on all ways from each place that follows it. */
@@ -388,9 +385,11 @@ public final class LaneBoard {
             return low[i] != oldLow || high[i] != oldHigh;
         }
 
-        /** The places on all ways stand in a row, and each has one fewer ahead of it: the nearest lacks only i. */
+        /**
+         * The places on all ways from i stand in a row, each with one fewer ahead of it: the nearest lacks only i.
+         * Where no way leads to THE END, all bits of i stay, those of no place too: then none is found.
+         */
         private int nearest(int i) {
-            if ((high[i] & LEADS_NOWHERE) != 0) return count;
             int due = Long.bitCount(low[i]) + Long.bitCount(high[i]) - 1;
             for (int place = 0; place < count; place++) {
                 if (place != i && isOn(place, i) && Long.bitCount(low[place]) + Long.bitCount(high[place]) == due) {
@@ -564,7 +563,7 @@ public final class LaneBoard {
         /** Asked ahead of the sum itself, since no number but a real one may come to be. */
         private static boolean comesToNumber(int op, float x, float y) {
             boolean bothEndless = isEndless(x) && isEndless(y);
-            boolean sameSide = x > 0 == y > 0;
+            boolean sameSide = (x > 0) == (y > 0);
             switch (op) {
                 case 19: return !bothEndless || sameSide;
                 case 20: return !bothEndless || !sameSide;
@@ -911,6 +910,10 @@ public final class LaneBoard {
             return hasGroup(n) && lane >= 0 && lane < LANES;
         }
 
+        int blockOf(int g) {
+            return size > 0 ? g / size : 0;
+        }
+
         boolean hasEnded(int g) {
             return modes[g] >= IS_FAILED;
         }
@@ -1032,7 +1035,7 @@ public final class LaneBoard {
             tally[T_COST] += cost;
             freeFrom[g] = tally[T_NOW] + 1 + cost;
             settle(g);
-            if (modes[g] != RUNS) openFence(g / size);
+            if (modes[g] != RUNS) openFence(blockOf(g));
         }
 
         private int costOfAsked() {
@@ -1108,8 +1111,8 @@ public final class LaneBoard {
         private int numberOf(int g, int lane, int op) {
             switch (op) {
                 case LANE_NUMBER: return lane;
-                case GROUP_NUMBER: return g % size;
-                case BLOCK_NUMBER: return g / size;
+                case GROUP_NUMBER: return g - blockOf(g) * size;
+                case BLOCK_NUMBER: return blockOf(g);
                 default: return size;
             }
         }
@@ -1147,7 +1150,7 @@ public final class LaneBoard {
                     lanes.wholes[whole] = was;
             }
             linesAsked |= 1 << (place >> LINE_BITS);
-            touches.add(Touches.rowCell(row, place), who, i, kind, tally[T_ACTS], times[who / LANES / size]);
+            touches.add(Touches.rowCell(row, place), who, i, kind, tally[T_ACTS], times[blockOf(who / LANES)]);
             return 0;
         }
 
@@ -1158,7 +1161,7 @@ public final class LaneBoard {
 
         /** OPS 30 to 32: the FAILURE, 0 without one. */
         private int doShared(int who, int i) {
-            int op = code.op[i], block = who / LANES / size;
+            int op = code.op[i], block = blockOf(who / LANES);
             int place = lanes.wholes[who * WHOLES + code.c[i]];
             if (place < 0 || place >= sharedCount) return PLACE;
             int whole = who * WHOLES + code.a[i], at = block * MOST_SHARED + place;
@@ -1185,7 +1188,7 @@ public final class LaneBoard {
 
         void take(Launch from, int g, int lane) {
             int who = g * LANES + lane;
-            int block = from.size > 0 ? g / from.size : 0;
+            int block = from.blockOf(g);
             isThere = true;
             rows.copyFrom(from.rows);
             System.arraycopy(from.lanes.wholes, who * WHOLES, wholes, 0, WHOLES);

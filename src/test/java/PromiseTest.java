@@ -61,6 +61,7 @@ public final class PromiseTest {
         differ();
         other();
         keepAndBack();
+        keepTouches();
         digest();
         emptyCode();
         System.out.println(wrong == 0 ? asked + " answers are as due" : wrong + " answers are not as due");
@@ -508,6 +509,7 @@ public final class PromiseTest {
         y.step(2);
         due("15 those behind the last act have ended", y.group(0, 3), 1);
         due("15 the others go back", y.group(0, 0), 0);
+        due("15 no parting of one", y.group(0, 2), 1);
         LaneBoard z = board(14, 0, 0, 0, 36, 0, 2, 0, 40, 1, 0, 0);
         z.launch(1, 1, 0);
         z.step(2);
@@ -652,6 +654,10 @@ public final class PromiseTest {
         z.launch(1, 1, 64);
         z.step(400);
         due("13 one of a bank each", z.told(11), 0);
+        LaneBoard last = board(0, 1, 63, 0, 30, 2, 0, 1);
+        last.launch(1, 1, 64);
+        last.step(400);
+        due("13 the last cell alone", last.told(11), 0);
         due("13 over", z.told(0), 2);
     }
 
@@ -1095,6 +1101,30 @@ public final class PromiseTest {
         due("26 the beginning is kept too", z.differ(0, 0), NONE);
         due("26 the beginning is kept too", z.alone(0, 0), 0);
         due("22 left", z.left(0, 0), 12);
+    }
+
+    /** RACES with TOUCHES from before a keep(), of the same ACT and TIME or not, after a back(). */
+    private static void keepTouches() {
+        LaneBoard x = board(15, 0, 0, 0, 31, 0, 0, 7, 42, 0, 0, 0, 31, 0, 0, 7, 42, 0, 0, 0, 30, 0, 0, 7);
+        x.launch(2, 2, 1);
+        finish(x);
+        int pairs = x.told(12);
+        due("13 stores at two times", pairs, 2 * 2 * 64 * 63 / 2);
+        for (int ticks = 1; ticks < x.told(1); ticks++) {
+            x.launch(2, 2, 1);
+            x.step(ticks);
+            x.keep();
+            finish(x);
+            x.back();
+            finish(x);
+            due("26 pairs, kept after " + ticks, x.told(12), pairs);
+            x.launch(1, 1, 1);
+            finish(x);
+            due("13 other touches", x.told(12), 2 * 32 * 31 / 2);
+            x.back();
+            finish(x);
+            due("26 pairs, kept after " + ticks, x.told(12), pairs);
+        }
     }
 
     private static void digest() {
