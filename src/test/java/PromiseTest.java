@@ -62,6 +62,7 @@ public final class PromiseTest {
         other();
         keepAndBack();
         keepTouches();
+        keepActsDone();
         digest();
         emptyCode();
         System.out.println(wrong == 0 ? asked + " answers are as due" : wrong + " answers are not as due");
@@ -197,6 +198,11 @@ public final class PromiseTest {
         LaneBoard far = board(36, 0, 88, 0);
         for (int i = 1; i < 90; i++) far.code(i == 87 ? 37 : 0, 0, i == 87 ? 70 : 0, 0);
         due("5 a loop above 64", far.meet(0), 88);
+        for (int target = 2; target <= 90; target++) {
+            far.wipe();
+            for (int i = 0; i < 90; i++) far.code(i == 1 ? 36 : 0, 0, i == 1 ? target : 0, 0);
+            due("5 each place", far.meet(1), target);
+        }
         far.wipe();
         addAll(far, 36, 0, 3, 0, 36, 1, 3, 0, 36, 2, 0, 0);
         due("5 wiped and new: 0", far.meet(0), 3);
@@ -1125,6 +1131,22 @@ public final class PromiseTest {
             finish(x);
             due("26 pairs, kept after " + ticks, x.told(12), pairs);
         }
+    }
+
+    /** The ACTS done of kept TOUCHES are not those of the LAUNCH in between, which touched in its third. */
+    private static void keepActsDone() {
+        LaneBoard x = board(31, 0, 0, 7, 0, 1, 1, 0, 31, 0, 0, 7);
+        x.launch(1, 1, 1);
+        x.step(1);
+        x.keep();
+        finish(x);
+        x.wipe();
+        addAll(x, 0, 1, 1, 0, 0, 1, 1, 0, 31, 0, 0, 7);
+        x.launch(1, 1, 1);
+        finish(x);
+        x.back();
+        finish(x);
+        due("26 pairs of each act by itself", x.told(12), 2 * 32 * 31 / 2);
     }
 
     private static void digest() {
