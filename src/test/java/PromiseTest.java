@@ -199,7 +199,7 @@ public final class PromiseTest {
         for (int i = 1; i < 90; i++) far.code(i == 87 ? 37 : 0, 0, i == 87 ? 70 : 0, 0);
         due("5 a loop above 64", far.meet(0), 88);
         for (int target = 2; target <= 90; target++) {
-            far.wipe();
+            far = new LaneBoard();
             for (int i = 0; i < 90; i++) far.code(i == 1 ? 36 : 0, 0, i == 1 ? target : 0, 0);
             due("5 each place", far.meet(1), target);
         }
