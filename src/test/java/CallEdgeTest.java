@@ -501,6 +501,13 @@ public final class CallEdgeTest extends Check {
         }
         due("no shared cells now", x.shared(5, 0), OUTSIDE);
         due("rows stay", x.cell(4, 4), 7);
+        for (int n = 0; n < 2; n++) {
+            due("one way, in place of the parted ones", x.group(n, 2), 1);
+            due("its act", x.way(n, 0, 0), 0);
+            due("its lanes", x.way(n, 0, 1), -1);
+            due("over nowhere", x.way(n, 0, 2), NONE);
+            due("no other", x.way(n, 1, 0), UNKNOWN);
+        }
         x.rule(2, 0);
         x.step(1);
         due("the greatest", x.group(7, 5), 1);
@@ -1059,7 +1066,7 @@ public final class CallEdgeTest extends Check {
         touchesKept(BLOCK, SET, ADD, LOAD, 3);
         chainKept();
         // One GROUP stores in its first ACT, and behind back() in its third, which is that of the TOUCHES in between.
-        LaneBoard x = board(S_STORE, 0, 0, 7, SET, 1, 1, 0, S_STORE, 0, 0, 7);
+        LaneBoard x = ran(board(S_STORE, 0, 0, 7, SET, 1, 1, 0, S_STORE, 0, 0, 7), 1, 1, 1);
         x.launch(1, 1, 1);
         x.step(1);
         x.keep();

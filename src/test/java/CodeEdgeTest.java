@@ -23,6 +23,7 @@ public final class CodeEdgeTest extends Check {
         jumps();
         anyAllCount();
         onlyLanesInStep();
+        onlyTheOwnGroup();
         shuffle();
         shuffleNotInStep();
         shuffleAsItWas();
@@ -378,6 +379,26 @@ public final class CodeEdgeTest extends Check {
         LaneBoard y = ran(LANE, 0, 0, 0, BRANCH, 0, 3, 0, STOP, 0, 0, 0, ALL, 1, 0, 0);
         due("all of those that are left", y.whole(0, 1, 1), 1);
         due("nothing for one that ended", y.whole(0, 0, 1), 0);
+    }
+
+    /** 38 to 41 are of one GROUP: they see and change no LANE of another, the first and the last GROUP neither. */
+    private static void onlyTheOwnGroup() {
+        for (int op = ANY; op <= SHUFFLE; op++) {
+            LaneBoard x = board(SET, 0, 1, 0, op, 1, 0, 7);
+            x.launch(2, 4, 0);
+            x.rule(1, 0);
+            for (int n = 0; n < 8; n++) {
+                x.step(2);
+                for (int g = 0; g < 8; g++) {
+                    int want = g > n ? 0 : op == COUNT ? 32 : 1;
+                    due("op " + op + " of group " + n + ", lane 0 of " + g, x.whole(g, 0, 1), want);
+                    due("op " + op + " of group " + n + ", lane 31 of " + g, x.whole(g, 31, 1), want);
+                }
+            }
+            LaneBoard y = ran(board(GROUP, 0, 0, 0, op, 1, 0, 7), 6, 4, 0);
+            due("the last group", y.whole(23, 31, 1), op == COUNT ? 32 : op == SHUFFLE ? 3 : 1);
+            due("one whose number is 0", y.whole(20, 0, 1), 0);
+        }
     }
 
     /** "41 SHUFFLE wa = wb of LANE wc of the GROUP ...; else -1 (also if there is no such LANE)" */
